@@ -477,8 +477,10 @@ public final class TypeLoom {
                 return NONE;
             }
             int at = node;
-            for (int i = 0; i < MAX_NODES && parents.at(at) != at; i++) {
-                at = parents.at(at);
+            int up = parents.at(at);
+            for (int i = 0; i < MAX_NODES && up != at; i++) {
+                at = up;
+                up = parents.at(at);
             }
             return at;
         }
@@ -508,6 +510,9 @@ public final class TypeLoom {
 
         /** The slot with the least label that is not below another, of all that a node is now; or NONE. */
         int slotFrom(int node, int least) {
+            if (kinds.at(node) == BUILT || kinds.at(node) == FUNCTION) {
+                return least < sizes.at(node) ? firsts.at(node) + least : NONE;
+            }
             int best = NONE;
             int at = node;
             for (int i = 0; i < MAX_NODES && at != NONE; i++) {

@@ -8,6 +8,7 @@ public final class LimitsTest {
         deepTypes();
         sharing();
         wideRows();
+        manyTimes();
         DUE.end();
     }
 
@@ -140,6 +141,31 @@ public final class LimitsTest {
         DUE.is("count(4)", x.count(4), 65536);
         DUE.is("function(0, 0)", x.function(0, 0), TypeLoom.FULL);
         DUE.is("variable(false, 0)", x.variable(false, 0), x.count(1) - 1);
+    }
+
+    /** What is gone by clear() leaves its room. */
+    private static void manyTimes() {
+        TypeLoom x = new TypeLoom();
+        x.level(1);
+        int v = x.variable(false, 0);
+        for (int i = 0; i < 128; i++) {
+            x.push(i, v);
+        }
+        int wide = x.record(false);
+        x.level(0);
+        x.scheme(wide);
+        doubles(x, 0);
+        for (int turn = 0; turn < 12; turn++) {
+            DUE.is("clear(0, 7)", x.clear(0, 7), true);
+            for (int i = 0; i < 6; i++) {
+                x.instance(6);
+            }
+            int last = x.instance(6);
+            DUE.is("count(4)", x.count(4), 58226);
+            DUE.is("look(last, 0x80020202020202, 0)", x.look(last, 0x80020202020202L, 0), 0);
+            DUE.is("same(last, 1, last, 2)", x.same(last, 1L, last, 2L), false);
+            DUE.is("unify(0, last - 3)", x.unify(0, last - 3), true);
+        }
     }
 
     /** A chain of functions that is twice as long each time: its end is unified with another's beginning. */

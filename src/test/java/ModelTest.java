@@ -5,7 +5,7 @@ import java.util.Random;
 /** Random runs of all calls, from fixed seeds: TypeLoom and NaiveLoom must answer the same. */
 public final class ModelTest {
     /** An object is used for at most 512 calls. */
-    private static final int CALLS = 512;
+    private static final int CALLS = 500;
 
     private final TypeLoom loom = new TypeLoom();
     private final NaiveLoom model = new NaiveLoom();
@@ -24,30 +24,42 @@ public final class ModelTest {
     public static void main(String[] args) {
         int runs = args.length > 0 ? Integer.parseInt(args[0]) : 4000;
         int first = args.length > 1 ? Integer.parseInt(args[1]) : 0;
-        int given = 0;
+        int givenUp = 0;
         long calls = 0;
         long unified = 0;
+        long alike = 0;
         for (int seed = first; seed < first + runs; seed++) {
             ModelTest run = new ModelTest(seed);
             try {
                 run.go();
             } catch (NaiveLoom.TooLong e) {
-                given++;
+                givenUp++;
             }
             if (run.wrong) {
-                System.out.println("ModelTest: run of seed " + seed);
-                for (String row : run.told) {
-                    System.out.println("  " + row);
-                }
+                run.tell(seed);
                 System.exit(1);
             }
             calls += run.told.size();
-            for (String row : run.told) {
-                unified += row.startsWith("unify") && row.endsWith(" 1") ? 1 : 0;
-            }
+            unified += run.answeredTrue("unify");
+            alike += run.answeredTrue("alike");
         }
-        System.out.println("ModelTest: " + runs + " runs, " + calls + " answers (" + unified + " unified, " + given
-            + " runs given up), 0 not as due");
+        System.out.println("ModelTest: " + runs + " runs, " + calls + " answers (" + unified + " unified, " + alike
+            + " alike; " + givenUp + " runs given up), 0 not as due");
+    }
+
+    private void tell(int seed) {
+        System.out.println("ModelTest: run of seed " + seed);
+        for (String row : told) {
+            System.out.println("  " + row);
+        }
+    }
+
+    private long answeredTrue(String call) {
+        long count = 0;
+        for (String row : told) {
+            count += row.startsWith(call) && row.endsWith(" 1") ? 1 : 0;
+        }
+        return count;
     }
 
     private void due(String call, long got, long want) {
@@ -60,9 +72,14 @@ public final class ModelTest {
     }
 
     private void go() {
+        boolean forSchemes = chance(25);
         constructors();
         while (told.size() < CALLS && !wrong) {
-            step();
+            if (forSchemes) {
+                schemeStep();
+            } else {
+                step();
+            }
         }
     }
 
@@ -78,11 +95,6 @@ public final class ModelTest {
         }
     }
 
-    private void constructor(int arity, int equality) {
-        due("constructor(" + arity + ", " + equality + ")", loom.constructor(arity, equality),
-            model.constructor(arity, equality));
-    }
-
     /** A type that there is, mostly a late one; now and then one that there is not. */
     private int type() {
         int n = model.count(1);
@@ -90,6 +102,10 @@ public final class ModelTest {
             return chance(50) ? n : -1 - random.nextInt(3);
         }
         return chance(60) ? Math.max(0, n - 1 - random.nextInt(12)) : random.nextInt(n);
+    }
+
+    private int someScheme() {
+        return random.nextInt(Math.max(1, model.count(3))) + (chance(3) ? 1 : 0) - (chance(1) ? 1 : 0);
     }
 
     private long path() {
@@ -101,73 +117,97 @@ public final class ModelTest {
         return chance(1) ? random.nextLong() : path;
     }
 
+    /** Small types of a few variables: many closed schemes of them are alike, or nearly so. */
+    private void schemeStep() {
+        if (model.count(1) == 0) {
+            level(1);
+            variable(false, 0);
+            variable(false, 0);
+            variable(true, 0);
+            rigid(false);
+            rigid(true);
+        }
+        switch (random.nextInt(6)) {
+            case 0:
+                function(random.nextInt(5), random.nextInt(5));
+                break;
+            case 1:
+                function(random.nextInt(5), type());
+                break;
+            case 2:
+                build();
+                break;
+            case 3:
+                push(random.nextInt(2), random.nextInt(5));
+                push(2 + random.nextInt(2), random.nextInt(5));
+                record(chance(10));
+                break;
+            case 4:
+                instance(someScheme());
+                break;
+            default:
+                if (chance(5)) {
+                    clear(model.count(0), random.nextInt(model.count(3) + 1));
+                }
+                break;
+        }
+        level(chance(90) ? 0 : 1);
+        scheme(type());
+        level(1);
+        for (int i = 0; i < 4; i++) {
+            alike(someScheme(), someScheme());
+        }
+        quantified(someScheme(), random.nextInt(3));
+    }
+
     private void step() {
         int kind = random.nextInt(100);
         if (kind < 9) {
-            variable();
+            variable(chance(25), chance(75) ? 0 : chance(5) ? random.nextInt() : random.nextInt(8));
         } else if (kind < 11) {
-            boolean equality = chance(50);
-            due("rigid(" + equality + ")", loom.rigid(equality), model.rigid(equality));
+            rigid(chance(50));
         } else if (kind < 18) {
             build();
         } else if (kind < 21) {
-            int from = type();
-            int to = type();
-            due("function(" + from + ", " + to + ")", loom.function(from, to), model.function(from, to));
+            function(type(), type());
         } else if (kind < 31) {
-            record();
+            for (int i = random.nextInt(4); i > 0; i--) {
+                push(chance(2) ? random.nextInt(70000) - 20000 : random.nextInt(labels), type());
+            }
+            record(chance(75));
         } else if (kind < 36) {
-            int now = chance(2) ? random.nextInt(300) - 100 : random.nextInt(levels + 1);
-            due("level(" + now + ")", loom.level(now), model.level(now));
+            level(chance(2) ? random.nextInt(300) - 100 : random.nextInt(levels + 1));
         } else if (kind < 55) {
             unify();
         } else if (kind < 66) {
-            same();
+            same(type(), path(), type(), path());
         } else if (kind < 82) {
-            look();
+            look(type(), path(), random.nextInt(7) + (chance(3) ? random.nextInt(9) - 4 : 0));
         } else if (kind < 86) {
-            int t = type();
-            long path = path();
-            int i = random.nextInt(labels + 2) - 1;
-            due("label(" + t + ", " + path + ", " + i + ")", loom.label(t, path, i), model.label(t, path, i));
+            label(type(), path(), random.nextInt(labels + 2) - 1);
         } else {
-            others(kind);
+            rareStep(kind);
         }
     }
 
-    private void others(int kind) {
-        int s = random.nextInt(Math.max(1, model.count(3)) + (chance(5) ? 1 : 0));
+    private void rareStep(int kind) {
         if (kind < 90) {
-            int t = type();
-            due("scheme(" + t + ")", loom.scheme(t), model.scheme(t));
+            scheme(type());
         } else if (kind < 92) {
-            int what = random.nextInt(4);
-            due("quantified(" + s + ", " + what + ")", loom.quantified(s, what), model.quantified(s, what));
+            quantified(someScheme(), random.nextInt(4));
         } else if (kind < 95) {
-            due("instance(" + s + ")", loom.instance(s), model.instance(s));
+            instance(someScheme());
         } else if (kind < 97) {
-            int z = random.nextInt(Math.max(1, model.count(3)));
-            due("alike(" + s + ", " + z + ")", loom.alike(s, z), model.alike(s, z));
+            alike(someScheme(), someScheme());
         } else if (kind < 99) {
             int what = random.nextInt(11) - 1;
             due("count(" + what + ")", loom.count(what), model.count(what));
         } else if (chance(30)) {
             int keep = model.count(0) - (chance(80) ? 0 : random.nextInt(3) - 1);
-            int schemes = chance(30) ? model.count(3) : random.nextInt(model.count(3) + 2) - (chance(5) ? 1 : 0);
-            due("clear(" + keep + ", " + schemes + ")", loom.clear(keep, schemes), model.clear(keep, schemes));
+            clear(keep, chance(30) ? model.count(3) : random.nextInt(model.count(3) + 2) - (chance(5) ? 1 : 0));
         } else {
             constructor(random.nextInt(10), random.nextInt(4) - (chance(10) ? 1 : 0));
         }
-    }
-
-    private void variable() {
-        boolean wish = chance(25);
-        int set = chance(75) ? 0 : chance(5) ? random.nextInt() : random.nextInt(8);
-        due("variable(" + wish + ", " + set + ")", loom.variable(wish, set), model.variable(wish, set));
-    }
-
-    private void push(int label, int t) {
-        due("push(" + label + ", " + t + ")", loom.push(label, t), model.push(label, t));
     }
 
     private void build() {
@@ -179,18 +219,9 @@ public final class ModelTest {
         }
         due("built(" + c + ")", loom.built(c), model.built(c));
         if (model.count(2) > 0 && chance(20)) {
-            due("clear(0, 0)", loom.clear(0, 0), model.clear(0, 0));
+            clear(0, 0);
             constructors();
         }
-    }
-
-    private void record() {
-        int n = random.nextInt(4);
-        for (int i = 0; i < n; i++) {
-            push(chance(2) ? random.nextInt(70000) - 20000 : random.nextInt(labels), type());
-        }
-        boolean open = chance(75);
-        due("record(" + open + ")", loom.record(open), model.record(open));
     }
 
     private void unify() {
@@ -203,19 +234,66 @@ public final class ModelTest {
         due("unify(" + t + ", " + u + ")", loom.unify(t, u), model.unify(t, u));
     }
 
-    private void same() {
-        int t = type();
-        int u = type();
-        long path = path();
-        long other = path();
+    private void constructor(int arity, int equality) {
+        due("constructor(" + arity + ", " + equality + ")", loom.constructor(arity, equality),
+            model.constructor(arity, equality));
+    }
+
+    private void push(int label, int t) {
+        due("push(" + label + ", " + t + ")", loom.push(label, t), model.push(label, t));
+    }
+
+    private void record(boolean open) {
+        due("record(" + open + ")", loom.record(open), model.record(open));
+    }
+
+    private void function(int from, int to) {
+        due("function(" + from + ", " + to + ")", loom.function(from, to), model.function(from, to));
+    }
+
+    private void variable(boolean wish, int set) {
+        due("variable(" + wish + ", " + set + ")", loom.variable(wish, set), model.variable(wish, set));
+    }
+
+    private void rigid(boolean equality) {
+        due("rigid(" + equality + ")", loom.rigid(equality), model.rigid(equality));
+    }
+
+    private void level(int now) {
+        due("level(" + now + ")", loom.level(now), model.level(now));
+    }
+
+    private void same(int t, long path, int u, long other) {
         due("same(" + t + ", " + path + ", " + u + ", " + other + ")", loom.same(t, path, u, other),
             model.same(t, path, u, other));
     }
 
-    private void look() {
-        int t = type();
-        long path = path();
-        int what = random.nextInt(7) + (chance(3) ? random.nextInt(9) - 4 : 0);
+    private void look(int t, long path, int what) {
         due("look(" + t + ", " + path + ", " + what + ")", loom.look(t, path, what), model.look(t, path, what));
+    }
+
+    private void label(int t, long path, int i) {
+        due("label(" + t + ", " + path + ", " + i + ")", loom.label(t, path, i), model.label(t, path, i));
+    }
+
+    private void scheme(int t) {
+        due("scheme(" + t + ")", loom.scheme(t), model.scheme(t));
+    }
+
+    private void quantified(int s, int what) {
+        due("quantified(" + s + ", " + what + ")", loom.quantified(s, what), model.quantified(s, what));
+    }
+
+    private void instance(int s) {
+        due("instance(" + s + ")", loom.instance(s), model.instance(s));
+    }
+
+    private void alike(int s, int z) {
+        due("alike(" + s + ", " + z + ")", loom.alike(s, z), model.alike(s, z));
+    }
+
+    private void clear(int constructors, int schemes) {
+        due("clear(" + constructors + ", " + schemes + ")", loom.clear(constructors, schemes),
+            model.clear(constructors, schemes));
     }
 }

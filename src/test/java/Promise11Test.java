@@ -39,6 +39,10 @@ public final class Promise11Test {
         same(x, f, 0L, lv, 0L, false);
         records(x, a, b, v);
         same(x, -1, 0L, a, 0L, false);
+        same(x, x.variable(false, 0), 0L, -1, 0L, false);
+        same(x, -1, 0L, x.variable(false, 0), 0L, false);
+        same(x, 0, 7L, x.variable(false, 0), 0L, false);
+        same(x, x.count(1) - 1, 0L, 0, 7L, false);
         same(x, a, 0L, x.count(1), 0L, false);
         same(x, x.count(1), 0L, x.count(1), 0L, false);
         same(x, Integer.MIN_VALUE, 0L, Integer.MIN_VALUE, 0L, false);

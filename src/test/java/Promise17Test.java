@@ -18,6 +18,9 @@ public final class Promise17Test {
         int[][] groups = {
             {x.function(v, w), x.function(w, v), x.function(r, v), x.function(v, r)},
             {x.function(v, v), x.function(r, r)},
+            {x.function(v, x.function(w, v)), x.function(w, x.function(r, w))},
+            {x.function(v, x.function(w, w))},
+            {x.function(v, x.function(v, w))},
             {x.function(e, v), x.function(q, r), x.function(q, v)},
             {x.function(v, e), x.function(r, q)},
             {x.function(e, q), x.function(q, e)},
@@ -42,8 +45,8 @@ public final class Promise17Test {
                 made++;
             }
         }
-        for (int z = 0; z < made; z++) {
-            for (int s = z % 3; s <= z; s += 3) {
+        for (int s = 0; s < made; s++) {
+            for (int z = s; z < made; z += z < s + 6 ? 1 : 3) {
                 DUE.is("alike(" + s + ", " + z + ")", x.alike(s, z), group[s] == group[z]);
             }
         }

@@ -53,6 +53,15 @@ public final class Promise18Test {
         clear(x, 3, 1, true);
         counts(x, new int[] {3, 0, 0, 1, 0, 1, 0, 0, 0});
         DUE.is("instance(0)", x.instance(0), 0);
+        // Schemes that are numbered like those before have nothing of them.
+        DUE.is("scheme(0)", x.scheme(0), 1);
+        DUE.is("scheme(built)", x.scheme(x.built(0)), 2);
+        for (int what = 0; what <= 2; what++) {
+            DUE.is("quantified(1, " + what + ")", x.quantified(1, what), 0);
+            DUE.is("quantified(2, " + what + ")", x.quantified(2, what), what == 1 ? 1 : 0);
+        }
+        DUE.is("instance(1)", x.instance(1), 0);
+        DUE.is("instance(2)", x.instance(2), 2);
         x.record(true);
         DUE.is("count(7)", x.count(7), 1);
         clear(x, 0, 1, true);
