@@ -4,8 +4,8 @@ import java.util.Random;
 
 /** Random runs of all calls, from fixed seeds: TypeLoom and NaiveLoom must answer the same. */
 public final class ModelTest {
-    /** An object is used for at most 512 calls. */
-    private static final int CALLS = 500;
+    /** An object is used for at most 512 calls, and the last step may be one of many. */
+    private static final int CALLS = 480;
 
     private final TypeLoom loom = new TypeLoom();
     private final NaiveLoom model = new NaiveLoom();
