@@ -319,6 +319,9 @@ public final class EdgesOfSchemesTest {
         EDGE.refused(sentence, two, call().clear(2, 3), 0);
         EDGE.answers("P18 it does not matter of those that go", two, call().clear(2, 1), 1);
         EDGE.answers("P18 with all constructors", two, call().clear(3, 3), 1);
+        EDGE.refused(sentence + ", alone", call().constructor(0, 1).built(0).scheme(0), call().clear(0, 1), 0);
+        EDGE.refused(sentence + ", though none is quantified", call().constructor(0, 1).constructor(0, 1).built(0).scheme(0)
+            .built(1).scheme(1), call().clear(1, 2), 0);
         EDGE.answers("P18 it does not matter of types", two, call().clear(0, 0), 1);
     }
 

@@ -141,6 +141,20 @@ public final class FullTest {
             .quantified(13, 1).look(TYPES - 1, 0L, 0).unify(0, TYPES - 1).same(0, 0L, TYPES - 1, 0L).clear(3, 13),
             new long[] {3, 1, 0, 13, 0, 0, 1, 1, 1});
         EDGE.refused("P16 one alone that is not quantified is not made", types(0).scheme(4), call().instance(13), 4);
+        // Scheme 13 is a function from what is quantified to what is not: two types are made, with two parts.
+        for (int left = 0; left < 3; left++) {
+            Calls before = deepSchemes().level(1).instance(0).level(0).variable(false, 0).function(16369, 16370)
+                .scheme(16371).instance(11).instance(11);
+            for (int i = left; i < 14; i++) {
+                before.instance(0);
+            }
+            if (left < 2) {
+                EDGE.refused("P16 FULL by what is made", before, call().instance(13), FULL);
+            } else {
+                EDGE.answers("P16 no type is made for what is not quantified", before, call().count(1).instance(13).count(1),
+                    new long[] {TYPES - 2, TYPES - 1, TYPES});
+            }
+        }
     }
 
     private static void fullOfParts() {
@@ -212,6 +226,10 @@ public final class FullTest {
             call().scheme(deepType(12) + 1), NONE);
         EDGE.refused("P14 NONE, though it is full", deepSchemes().scheme(deepType(3)).level(1).variable(false, 1).level(0),
             call().scheme(deepType(12) + 1), NONE);
+        // What was made last, at the limit itself, is as good as the others.
+        EDGE.answers("P14 the scheme that has the last types", full, call().alike(3, 13).clear(3, 14).instance(13)
+            .look(14, 0L, 2).look(14, 0x020202L, 0).look(14, 0x010202L, 0).same(14, 0x020202L, 14, 0x010202L).instance(3)
+            .unify(14, 29).count(4), new long[] {1, 1, 14, 2, 0, 0, 0, 29, 1, 28});
         Calls one = deepSchemes().scheme(deepType(2)).scheme(deepType(2));
         EDGE.refused("P14 FULL with one type left", one, call().scheme(deepType(1)), FULL);
         EDGE.answers("P14 the last type", one, call().scheme(0).count(5).scheme(0), new long[] {15, SCHEME_TYPES, FULL});
@@ -236,6 +254,9 @@ public final class FullTest {
         EDGE.refused("P14 FULL for parts, and nothing is made", full, call().scheme(next + 1), FULL);
         EDGE.refused("P14 NONE, though it is full", full, call().scheme(next + 2), NONE);
         EDGE.answers("P14 what has no parts", full, call().scheme(0).count(6), new long[] {15, SCHEME_PARTS});
+        EDGE.answers("P14 the scheme that has the last parts", full, call().clear(3, 15).instance(14).look(1, 0L, 2)
+            .same(1, 2L, 0, 0L).instance(13).look(3, 0L, 2).label(3, 0L, 31).same(3, 32L, 2, 0L).count(4),
+            new long[] {1, 1, 2, 1, 3, 32, 31, 1, 34});
     }
 
     private static void roomComesBack() {

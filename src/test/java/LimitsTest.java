@@ -9,6 +9,8 @@ public final class LimitsTest {
         sharing();
         wideRows();
         manyTimes();
+        manyFailures();
+        manyFailuresWhenFull();
         DUE.end();
     }
 
@@ -141,6 +143,92 @@ public final class LimitsTest {
         DUE.is("count(4)", x.count(4), 65536);
         DUE.is("function(0, 0)", x.function(0, 0), TypeLoom.FULL);
         DUE.is("variable(false, 0)", x.variable(false, 0), x.count(1) - 1);
+    }
+
+    /** Many rows come to stand for many fields, until it turns out that it can't be: nothing is left of that. */
+    private static void manyFailures() {
+        TypeLoom x = new TypeLoom();
+        x.constructor(8, 1);
+        int a = x.rigid(false);
+        int b = x.rigid(false);
+        for (int i = 0; i < 128; i++) {
+            x.push(i, a);
+        }
+        int wide = x.record(false);
+        int[] all = new int[8];
+        for (int i = 0; i < 8; i++) {
+            int[] rows = new int[8];
+            for (int k = 0; k < 8; k++) {
+                rows[k] = x.record(true);
+            }
+            all[i] = tuple(x, rows);
+        }
+        int open = tuple(x, all);
+        int closed = tuple(x, wide, wide, wide, wide, wide, wide, wide, wide);
+        closed = tuple(x, closed, closed, closed, closed, closed, closed, closed, closed);
+        int one = x.function(open, a);
+        int two = x.function(closed, b);
+        for (int i = 0; i < 40; i++) {
+            DUE.is("unify that fails late", x.unify(one, two), false);
+        }
+        DUE.is("look(open, 0x0808, 2)", x.look(open, 0x0808L, 2), 0);
+        DUE.is("unify(open, closed)", x.unify(open, closed), true);
+        DUE.is("look(open, 0x0808, 2)", x.look(open, 0x0808L, 2), 128);
+        DUE.is("label(open, 0x0101, 127)", x.label(open, 0x0101L, 127), 127);
+        DUE.is("same(open, 0x800808, a, 0)", x.same(open, 0x800808L, a, 0L), true);
+        DUE.is("same(open, 0, closed, 0)", x.same(open, 0L, closed, 0L), true);
+    }
+
+    /** Rows that come to be as records are unified are gone as well when it fails, though types are nearly full. */
+    private static void manyFailuresWhenFull() {
+        TypeLoom x = new TypeLoom();
+        x.constructor(8, 1);
+        x.level(1);
+        x.variable(false, 0);
+        x.level(0);
+        x.scheme(0);
+        doubles(x, 0);
+        DUE.is("clear(1, 13)", x.clear(1, 13), true);
+        int a = x.rigid(false);
+        int b = x.rigid(false);
+        int[] lefts = new int[8];
+        int[] rights = new int[8];
+        for (int i = 0; i < 8; i++) {
+            x.push(i, a);
+            lefts[i] = x.record(true);
+            x.push(i + 1, b);
+            rights[i] = x.record(true);
+        }
+        int left = tuple(x, lefts);
+        int right = tuple(x, rights);
+        int one = x.function(left, a);
+        int two = x.function(right, b);
+        x.instance(12);
+        for (int s = 12; s >= 0; s--) {
+            x.instance(s);
+        }
+        DUE.is("nearly full", x.count(1) > 24576 - 8, true);
+        for (int i = 0; i < 200; i++) {
+            DUE.is("unify that fails late", x.unify(one, two), false);
+        }
+        DUE.is("unify(left, right)", x.unify(left, right), true);
+        DUE.is("same(left, 0, right, 0)", x.same(left, 0L, right, 0L), true);
+        for (int i = 0; i < 8; i++) {
+            DUE.is("look of a left one", x.look(lefts[i], 0L, 2), 2);
+            DUE.is("look of a right one", x.look(rights[i], 0L, 6), 1);
+            DUE.is("label of a right one", x.label(rights[i], 0L, 0), i);
+            DUE.is("same of all that have a row", x.same(lefts[i], 0L, lefts[0], 0L), i == 0);
+        }
+        DUE.is("unify of rows", x.unify(rights[7], lefts[5]), true);
+        DUE.is("look of a left one", x.look(lefts[7], 0L, 2), 4);
+        DUE.is("look of another", x.look(lefts[6], 0L, 2), 2);
+    }
+
+    private static int tuple(TypeLoom x, int... parts) {
+        for (int part : parts) {
+            x.push(-1, part);
+        }
+        return x.built(0);
     }
 
     /** What is gone by clear() leaves its room. */
